@@ -28,12 +28,12 @@ public final class SmokeTalk {
 
     public SmokeTalk() {
         text = new Text();
-        telling = new Telling(text);
+        telling = new Telling();
         menu = new Menu();
         now = new Suppers();
         firstImage = new Suppers();
         secondImage = new Suppers();
-        speech = new Speech(menu);
+        speech = new Speech();
         links = new Chain();
         pot = new int[GOODS];
         traced = 0;
@@ -55,7 +55,7 @@ public final class SmokeTalk {
     }
 
     public int valley() {
-        int items = telling.readAll();
+        int items = telling.readAll(text);
         if (items < 0) return FAULTS - text.start;
         menu.become(telling.menu);
         telling.suppers.lottery = now.lottery;
@@ -140,7 +140,7 @@ public final class SmokeTalk {
         if (!now.hasHouse(h) || !isRow(a, b, c) || i < -1 || i >= ROW) return BAD;
         speech.hear(a, b, c);
         now.fill(h, speech.left);
-        int units = speech.fewestUnits(WHOLE_ROW);
+        int units = speech.fewestUnits(menu, WHOLE_ROW);
         if (units == NONE) return NONE;
         if (i < 0) return units;
         return i < speech.told ? speech.best[i] : NO_SUCH_WORD;
@@ -150,7 +150,7 @@ public final class SmokeTalk {
         if (!now.hasHouse(h) || !isRow(a, b, c)) return BAD;
         speech.hear(a, b, c);
         now.fill(h, speech.left);
-        return speech.mostPlaces();
+        return speech.mostPlaces(menu);
     }
 
     public int reads(int smoke, int as) {
@@ -448,14 +448,12 @@ public final class SmokeTalk {
 
     // Reads THE TEXT into a draft, so that a FAULT leaves the valley as it was.
     private static final class Telling {
-        final Text text;
         final Menu menu;
         final Suppers suppers;
         final int[] numbers;
         boolean fogTold;
 
-        Telling(Text text) {
-            this.text = text;
+        Telling() {
             menu = new Menu();
             suppers = new Suppers();
             numbers = new int[GOODS + 2];
@@ -463,7 +461,7 @@ public final class SmokeTalk {
         }
 
         // How many ITEMS; -1 where the TOKEN that was read last can't stand there.
-        int readAll() {
+        int readAll(Text text) {
             menu.dishes = 0;
             suppers.houses = 0;
             suppers.plumes = 0;
@@ -472,12 +470,12 @@ public final class SmokeTalk {
             text.rewind();
             for (int items = 0; items <= TEXT_MOST; items++) {
                 if (text.token == Text.END) return items;
-                if (!readItem()) return -1;
+                if (!readItem(text)) return -1;
             }
             return -1;
         }
 
-        private boolean readItem() {
+        private boolean readItem(Text text) {
             int item = text.token;
             if (!mayBegin(item)) return false;
             text.step();
@@ -742,7 +740,6 @@ public final class SmokeTalk {
 
     // SAYS and NEAREST: a row of WORDS, with one LARDER.
     private static final class Speech {
-        final Menu menu;
         final int[] row;
         final int[] chosen;
         final int[] best;
@@ -750,8 +747,7 @@ public final class SmokeTalk {
         int told;
         int fewest;
 
-        Speech(Menu menu) {
-            this.menu = menu;
+        Speech() {
             row = new int[ROW];
             chosen = new int[ROW];
             best = new int[ROW];
@@ -766,38 +762,38 @@ public final class SmokeTalk {
         }
 
         // The UNITS of the best way to say the WORDS at these places (bits); NONE.
-        int fewestUnits(int places) {
+        int fewestUnits(Menu menu, int places) {
             fewest = NONE;
-            choose(this, 0, places, 0);
+            choose(this, menu, 0, places, 0);
             return fewest;
         }
 
-        int mostPlaces() {
+        int mostPlaces(Menu menu) {
             int most = 0;
             for (int places = 1; places < 1 << told; places++) {
                 boolean more = Integer.bitCount(places) > Integer.bitCount(most);
-                if (more && fewestUnits(places) != NONE) most = places;
+                if (more && fewestUnits(menu, places) != NONE) most = places;
             }
             return most;
         }
 
         // Tries each DISH for the WORD at this place, and so on to the row's end: the ways
         // come in the order of their DISHES, so that of several the first one stays.
-        private static void choose(Speech s, int place, int places, int units) {
+        private static void choose(Speech s, Menu menu, int place, int places, int units) {
             if (place >= s.told || place >= ROW) {
                 s.compare(units);
                 return;
             }
             if ((places >> place & 1) == 0) {
-                choose(s, place + 1, places, units);
+                choose(s, menu, place + 1, places, units);
                 return;
             }
-            for (int d = 0; d < s.menu.dishes; d++) {
-                if (s.menu.words[d] != s.row[place] || !s.menu.fits(d, s.left)) continue;
+            for (int d = 0; d < menu.dishes; d++) {
+                if (menu.words[d] != s.row[place] || !menu.fits(d, s.left)) continue;
                 s.chosen[place] = d;
-                s.menu.take(d, s.left);
-                choose(s, place + 1, places, units + s.menu.units[d]);
-                s.menu.putBack(d, s.left);
+                menu.take(d, s.left);
+                choose(s, menu, place + 1, places, units + menu.units[d]);
+                menu.putBack(d, s.left);
             }
         }
 

@@ -96,6 +96,7 @@ public final class HungerTest {
         Checks.due("no bits", x.feast(0, 0), -1);
         Checks.due("what 3", x.feast(1, 3), -1);
         Checks.due("what -1", x.feast(1, -1), -1);
+        Checks.due("the first dish says it", x.feast(1, 2), 0);
         SmokeTalk y = Checks.told("dish 0 0 0 0 0 0 6;");
         Checks.due("smoke 0", y.feast(1, 0), 0);
         Checks.due("smoke 0 means 6", y.feast(1, 1), 6);

@@ -106,6 +106,23 @@ public final class KindsTest {
         x.back(0);
         Checks.due("the kept plume is undone", x.undo(), 0);
         Checks.due("with what was cooked for it", x.house(0, 0), 9);
+
+        SmokeTalk y = Checks.told("house 9 0 0 0 0; house 8 0 0 0 0; dish 2 0 0 0 0 5 1; dish 1 0 0 0 0 6 1;");
+        y.cook(0, 0);
+        y.cook(1, 0);
+        y.keep(1);
+        y.undo();
+        y.undo();
+        y.cook(1, 1);
+        y.cook(0, 1);
+        Checks.due("back", y.back(1), 2);
+        Checks.due("house of the first plume", y.plume(0, 0), 0);
+        Checks.due("smoke of the first plume", y.plume(0, 1), 5);
+        Checks.due("house of the second plume", y.plume(1, 0), 1);
+        Checks.due("smoke of the second plume", y.plume(1, 1), 5);
+        y.undo();
+        Checks.due("the second one's goods", y.house(1, 0), 8);
+        Checks.due("the first one's not yet", y.house(0, 0), 7);
     }
 
     private static void counts() {

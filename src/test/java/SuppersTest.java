@@ -2,6 +2,7 @@
 public final class SuppersTest {
     public static void main(String[] args) {
         cooking();
+        cookingTouchesNoNeighbour();
         cookingUntilFull();
         undoing();
         giving();
@@ -21,6 +22,7 @@ public final class SuppersTest {
         Checks.due("nothing is gone", x.house(0, 5), 15);
         Checks.due("no plume", x.count(2), 0);
         Checks.due("cook", x.cook(0, 0), 5);
+        Checks.due("the neighbour has no less", x.house(1, 5), 0);
         Checks.due("good 0 is less", x.house(0, 0), 2);
         Checks.due("good 1 is less", x.house(0, 1), 0);
         Checks.due("good 2 is not", x.house(0, 2), 1);
@@ -29,6 +31,25 @@ public final class SuppersTest {
         Checks.due("no more of good 1", x.cook(0, 0), -2);
         Checks.due("a dish of nothing", x.cook(1, 2), 7);
         Checks.due("two plumes", x.count(2), 2);
+    }
+
+    private static void cookingTouchesNoNeighbour() {
+        SmokeTalk x = Checks.told("house 1 1 1 1 1; house 5 5 5 5 5; house 6 6 6 6 6; dish 1 1 1 1 1 5 0; dish 3 3 3 3 3 6 1;");
+        x.cook(1, 1);
+        Checks.due("ahead of it", x.house(0, 5), 5);
+        Checks.due("itself", x.house(1, 5), 10);
+        Checks.due("behind it", x.house(2, 5), 30);
+        x.cook(1, 0);
+        Checks.due("behind it still", x.house(2, 0), 6);
+        x.undo();
+        Checks.due("undo: behind it", x.house(2, 0), 6);
+        Checks.due("undo: itself", x.house(1, 5), 10);
+        x.gives(1, 0, 4, 2);
+        Checks.due("given", x.house(0, 4) * 10 + x.house(1, 4), 30);
+        Checks.due("no other good is given", x.house(0, 5) + x.house(1, 5), 15);
+        x.burns(1);
+        Checks.due("burnt: ahead of it", x.house(0, 5), 7);
+        Checks.due("burnt: behind it", x.house(2, 5), 30);
     }
 
     private static void cookingUntilFull() {

@@ -13,6 +13,7 @@ public final class ValleyTest {
         tooMany();
         aFaultChangesNothing();
         readAnew();
+        readAnewWithFewer();
         houses();
         dishes();
         Checks.end();
@@ -154,7 +155,14 @@ public final class ValleyTest {
         fault("hous", 0);
         fault("housefog 1;", 0);
         fault("dishes", 0);
+        fault("mouse 1 2 3 4 5;", 0);
+        fault("fish 1 2 3 4 5 6 7;", 0);
+        fault("dog 1;", 0);
+        fault("foga 1;", 0);
+        fault("fogz 1;", 0);
+        fault("zfog 1;", 0);
         fault("fog a;", 4);
+        fault("fog z;", 4);
         fault("fog 1a;", 5);
         fault("fog 1; feg 2;", 7);
         fault("Fog 1;", 0);
@@ -224,6 +232,32 @@ public final class ValleyTest {
         Checks.due("valley of no text", x.valley(), 0);
         Checks.due("no houses", x.count(0), 0);
         Checks.due("the lot stays again", x.lot(5), 5);
+    }
+
+    // Nothing of the HOUSES and DISHES of an earlier text is left behind those of a shorter one.
+    private static void readAnewWithFewer() {
+        SmokeTalk x = Checks.told("house 9 9 9 9 9; house 9 9 9 9 9; dish 0 0 0 0 0 1 1; dish 0 0 0 0 0 2 2; dish 1 0 0 0 0 0 3; fog 1;");
+        Checks.tell(x, "house 0 0 0 0 0; dish 0 0 0 0 0 1 1;");
+        Checks.due("the smoke of a dish that was", x.means(2), -9);
+        Checks.due("the word of a dish that was", x.says(0, 2, -1, -1, -1), -9);
+        Checks.due("nearest by it", x.nearest(0, 2, 1, -1), 2);
+        Checks.due("chain of it", x.chain(2, 1, 0), 0);
+        Checks.due("code by it", x.code(6, 1, 0), -9);
+        Checks.due("most by it", x.code(6, 1, 1), 1);
+        Checks.due("feast of it alone", x.feast(2, 0), -1);
+        Checks.due("feast with it", x.feast(3, 0), 1);
+        Checks.due("mark of it", x.mark(0, 1), -1000000);
+        Checks.due("who of one house", x.who(1, 0, 1), 1);
+        Checks.due("who of a house that was", x.who(1, 1, 0), -1);
+        Checks.due("silent", x.silent(1), 1);
+        Checks.tell(x, "house 0 0 0 0 0; dish 1 0 0 0 0 1 1;");
+        Checks.due("a larder that was can none", x.who(1, 0, 0), -2);
+        Checks.due("days by a dish that was", x.days(0), 0);
+        Checks.tell(x, "house 9 9 9 9 9; house 9 9 9 9 9; dish 1 0 0 0 0 1 1; dish 0 0 0 0 0 1 1;");
+        Checks.tell(x, "house 1 0 0 0 0; dish 1 0 0 0 0 1 1;");
+        Checks.due("of the one house alone", x.who(1, 0, 1), 1);
+        Checks.due("one day", x.days(0), 1);
+        Checks.due("one unit", x.says(0, 1, -1, -1, -1), 1);
     }
 
     private static void houses() {

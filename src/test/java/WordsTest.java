@@ -148,6 +148,12 @@ public final class WordsTest {
         Checks.due("in least terms", x.chain(2, 4, 1), 1);
         x.fog(5);
         Checks.due("an eighth", x.chain(2, 1, 1), 8);
+        SmokeTalk y = Checks.told("dish 0 0 0 0 0 0 0; dish 0 0 0 0 0 7 7; fog 1;");
+        // Word 0 by two: 729 * 729 + 1 * 1; word 7 alike.
+        Checks.due("word 0", y.chain(0, 2, 0), 265721);
+        Checks.due("word 0, of", y.chain(0, 2, 1), 500000);
+        Checks.due("word 7", y.chain(7, 2, 0), 265721);
+        Checks.due("word 0 again", y.chain(0, 1, 0), 729);
     }
 
     private static void chainsEndAndChange() {
